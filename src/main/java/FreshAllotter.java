@@ -149,7 +149,7 @@ public final class FreshAllotter {
         if (!stock.isOpen(order) || !(ofAll || stock.hasLot(lot))) {
             return NONE;
         }
-        planner.makeWhole(stock, stock.orderGood[order]);
+        planner.make(stock, stock.orderGood[order]);
         return ofAll ? planner.grantOf(order) : planner.shareOf(lot, order);
     }
 
@@ -170,8 +170,8 @@ public final class FreshAllotter {
         if (!stock.hasGood(good) || !stock.isAhead(day)) {
             return NONE;
         }
-        planner.makeWhole(stock, good);
-        return planner.sumUnusedTo(day);
+        planner.make(stock, good);
+        return planner.sumRestTo(day);
     }
 
     public int would(int customer, int good, int sum, int day) {
@@ -183,7 +183,7 @@ public final class FreshAllotter {
         }
         draft.copyFrom(stock);
         int order = draft.addOrder(customer, good, sum, day);
-        planner.makeGrants(draft, good);
+        planner.make(draft, good);
         return planner.grantOf(order);
     }
 
@@ -239,7 +239,7 @@ public final class FreshAllotter {
             return NONE;
         }
         past.keep(stock);
-        planner.makeWhole(stock, good);
+        planner.make(stock, good);
         return planner.reserveAll();
     }
 
@@ -300,11 +300,11 @@ public final class FreshAllotter {
         return stock.hasCustomer(customer) && stock.hasGood(good) && isSum(sum) && stock.isAhead(day);
     }
 
-    /** Whether an order would have its whole sum, did its customer want so many days less; the draft is the stock but for that. */
+    /** Whether an order would have its whole sum, did its customer want so many days less; the draft is else the stock. */
     private boolean isFilledWith(int daysLess, int order) {
         int customer = stock.orderCustomer[order];
         draft.life[customer] = stock.life[customer] - daysLess;
-        planner.makeGrants(draft, stock.orderGood[order]);
+        planner.make(draft, stock.orderGood[order]);
         return planner.grantOf(order) == stock.orderSum[order];
     }
 
@@ -876,79 +876,60 @@ public final class FreshAllotter {
     }
 
     /**
-     * The plan of a good. A good has six open orders at most (one of a customer), so that sets of orders,
-     * as bits by their turn, can all be walked: what can be had is told by the tightest of these sets
-     * (a flow is as great as the least cut), and no flow has to be searched for.
+     * The plan of a good: each order in turn takes what it still wants of each lot by age that suits it.
+     *
+     * No taking back is needed. An order that suits a younger lot B as well as an older lot A may as well take A: an
+     * order behind it that A suits, B suits too, for B expires no sooner, and B's hold is over on the first order's day
+     * and so on the later one's. So in any way to reserve that takes otherwise, the first place where it does can be
+     * mended (by taking more, by taking A for B, or by changing A for B with an order behind) and the way is better.
      */
     private static final class Planner {
-        private static final int SETS = 1 << CUSTOMERS_MAX;
-
         private Stock stock;
         private int lots;
         private int orders;
-        private int sets;
         // Lots stand here by age, orders by turn.
         private final int[] lotNumber = new int[LOTS_MAX];
-        private final int[] orderNumber = new int[CUSTOMERS_MAX];
-        // Which orders a lot suits; in splitting, of those only the orders that have no share of it as yet.
-        private final int[] suited = new int[LOTS_MAX];
-        private final int[] grant = new int[CUSTOMERS_MAX];
-        private final int[] used = new int[LOTS_MAX];
-        private final int[] share = new int[LOTS_MAX * CUSTOMERS_MAX];
-        // What splitting has still to give: of a lot, to an order.
         private final int[] lotRest = new int[LOTS_MAX];
-        private final int[] orderRest = new int[CUSTOMERS_MAX];
-        // Of a set of orders: what is left of lots that suit any of it, the sum of its grants,
-        // and how much of these grants is not bound to lots that suit no order outside it.
-        private final int[] reach = new int[SETS];
-        private final int[] granted = new int[SETS];
-        private final int[] room = new int[SETS];
+        private final int[] orderNumber = new int[CUSTOMERS_MAX];
+        private final int[] share = new int[LOTS_MAX * CUSTOMERS_MAX];
 
         Planner(Stock stock) {
             this.stock = stock;
         }
 
-        /** The plan as far as how much each order has. */
-        void makeGrants(Stock of, int good) {
+        void make(Stock of, int good) {
             stock = of;
-            gatherOrders(good);
             gatherLots(good);
-            clearReach();
-            for (int i = 0; i < lots; i++) {
-                addReach(i);
-            }
-            granted[0] = 0;
+            gatherOrders(good);
             for (int turn = 0; turn < orders; turn++) {
-                grantTo(turn);
+                serve(turn);
             }
-        }
-
-        void makeWhole(Stock of, int good) {
-            makeGrants(of, good);
-            useLots();
-            splitLots();
         }
 
         int grantOf(int order) {
             int turn = turnOf(order);
-            return turn == NONE ? 0 : grant[turn];
+            int sum = 0;
+            for (int age = 0; age < lots && turn != NONE; age++) {
+                sum += share[cell(age, turn)];
+            }
+            return sum;
         }
 
         int shareOf(int lot, int order) {
             int turn = turnOf(order);
-            for (int i = 0; i < lots && turn != NONE; i++) {
-                if (lotNumber[i] == lot) {
-                    return share[i * CUSTOMERS_MAX + turn];
+            for (int age = 0; age < lots && turn != NONE; age++) {
+                if (lotNumber[age] == lot) {
+                    return share[cell(age, turn)];
                 }
             }
             return 0;
         }
 
-        int sumUnusedTo(int day) {
+        int sumRestTo(int day) {
             int sum = 0;
-            for (int i = 0; i < lots; i++) {
-                if (stock.lotExpiry[lotNumber[i]] <= day) {
-                    sum += stock.lotLeft[lotNumber[i]] - used[i];
+            for (int age = 0; age < lots; age++) {
+                if (stock.lotExpiry[lotNumber[age]] <= day) {
+                    sum += lotRest[age];
                 }
             }
             return sum;
@@ -957,15 +938,19 @@ public final class FreshAllotter {
         /** Puts the plan in place of what is reserved: how much is so no more. */
         int reserveAll() {
             int sum = 0;
-            for (int i = 0; i < lots; i++) {
+            for (int age = 0; age < lots; age++) {
                 for (int turn = 0; turn < orders; turn++) {
-                    int planned = share[i * CUSTOMERS_MAX + turn];
-                    int before = stock.reservedFor(lotNumber[i], orderNumber[turn]);
+                    int planned = share[cell(age, turn)];
+                    int before = stock.reservedFor(lotNumber[age], orderNumber[turn]);
                     sum += Math.max(0, before - planned);
-                    stock.setReserved(lotNumber[i], orderNumber[turn], planned);
+                    stock.setReserved(lotNumber[age], orderNumber[turn], planned);
                 }
             }
             return sum;
+        }
+
+        private static int cell(int age, int turn) {
+            return age * CUSTOMERS_MAX + turn;
         }
 
         private int turnOf(int order) {
@@ -977,150 +962,56 @@ public final class FreshAllotter {
             return NONE;
         }
 
-        private void gatherOrders(int good) {
-            orders = 0;
-            for (int order = 0; order < stock.orders; order++) {
-                if (stock.orderGood[order] == good && stock.isOpen(order) && orders < CUSTOMERS_MAX) {
-                    int turn = orders;
-                    while (turn > 0 && stock.orderDay[orderNumber[turn - 1]] > stock.orderDay[order]) {
-                        orderNumber[turn] = orderNumber[turn - 1];
-                        turn--;
-                    }
-                    orderNumber[turn] = order;
-                    orders++;
-                }
-            }
-            sets = 1 << orders;
-        }
-
         private void gatherLots(int good) {
             lots = 0;
             for (int lot = 0; lot < stock.lots; lot++) {
                 if (stock.lotGood[lot] == good) {
-                    int age = lots;
-                    while (age > 0 && stock.lotExpiry[lotNumber[age - 1]] > stock.lotExpiry[lot]) {
-                        lotNumber[age] = lotNumber[age - 1];
-                        age--;
-                    }
-                    lotNumber[age] = lot;
-                    lots++;
+                    insertLot(lot);
                 }
             }
-            for (int i = 0; i < lots; i++) {
-                suited[i] = suitedBy(lotNumber[i]);
+            for (int age = 0; age < lots; age++) {
+                lotRest[age] = stock.lotLeft[lotNumber[age]];
             }
         }
 
-        private int suitedBy(int lot) {
-            int set = 0;
-            for (int turn = 0; turn < orders; turn++) {
-                if (stock.fits(lot, orderNumber[turn])) {
-                    set |= 1 << turn;
-                }
+        private void insertLot(int lot) {
+            int age = lots;
+            while (age > 0 && stock.lotExpiry[lotNumber[age - 1]] > stock.lotExpiry[lot]) {
+                lotNumber[age] = lotNumber[age - 1];
+                age--;
             }
-            return set;
+            lotNumber[age] = lot;
+            lots++;
         }
 
-        private void clearReach() {
-            for (int set = 0; set < sets; set++) {
-                reach[set] = 0;
-            }
-        }
-
-        private void addReach(int lot) {
-            int left = stock.lotLeft[lotNumber[lot]];
-            for (int set = 0; set < sets; set++) {
-                if ((suited[lot] & set) != 0) {
-                    reach[set] += left;
+        /** There is room for all: a customer has one open order for a good at most. */
+        private void gatherOrders(int good) {
+            orders = 0;
+            for (int order = 0; order < stock.orders; order++) {
+                if (stock.orderGood[order] == good && stock.isOpen(order) && orders < CUSTOMERS_MAX) {
+                    insertOrder(order);
                 }
             }
         }
 
-        /** An order has most if no set of it and orders ahead has more than the lots that suit any of them. */
-        private void grantTo(int turn) {
-            int bit = 1 << turn;
-            int most = stock.orderSum[orderNumber[turn]];
-            for (int ahead = 0; ahead < bit; ahead++) {
-                most = Math.min(most, reach[ahead | bit] - granted[ahead]);
+        private void insertOrder(int order) {
+            int turn = orders;
+            while (turn > 0 && stock.orderDay[orderNumber[turn - 1]] > stock.orderDay[order]) {
+                orderNumber[turn] = orderNumber[turn - 1];
+                turn--;
             }
-            grant[turn] = most;
-            for (int ahead = 0; ahead < bit; ahead++) {
-                granted[ahead | bit] = granted[ahead] + most;
-            }
+            orderNumber[turn] = order;
+            orders++;
         }
 
-        /** Of each lot by age so much is used as the lots up to it can give more than those ahead of it. */
-        private void useLots() {
-            clearReach();
-            int before = 0;
-            for (int i = 0; i < lots; i++) {
-                addReach(i);
-                int most = granted[sets - 1];
-                for (int set = 0; set < sets; set++) {
-                    most = Math.min(most, reach[set] + granted[sets - 1 - set]);
-                }
-                used[i] = most - before;
-                before = most;
-            }
-        }
-
-        private void splitLots() {
-            startRests();
-            for (int turn = 0; turn < orders; turn++) {
-                for (int i = 0; i < lots; i++) {
-                    share[i * CUSTOMERS_MAX + turn] = (suited[i] & 1 << turn) != 0 ? giveShare(i, turn) : 0;
-                }
-            }
-        }
-
-        private void startRests() {
-            for (int turn = 0; turn < orders; turn++) {
-                orderRest[turn] = grant[turn];
-            }
-            for (int set = 0; set < sets; set++) {
-                room[set] = granted[set];
-            }
-            for (int i = 0; i < lots; i++) {
-                lotRest[i] = used[i];
-                bind(i);
-            }
-        }
-
-        /** What a lot has to give goes to the orders it suits: in a set that has all of them it takes room. */
-        private void bind(int lot) {
-            for (int set = 0; set < sets; set++) {
-                if ((suited[lot] & ~set) == 0) {
-                    room[set] -= lotRest[lot];
-                }
-            }
-        }
-
-        /** The most of a lot for an order by which all other rests can still be given; no more of it goes there later. */
-        private int giveShare(int lot, int turn) {
-            int bit = 1 << turn;
-            int most = Math.min(lotRest[lot], orderRest[turn]);
-            // Orders ahead have all their shares by now, so that only sets without them are looked at.
-            for (int set = bit; set < sets; set += 2 * bit) {
-                if ((suited[lot] & ~set) != 0) {
-                    most = Math.min(most, room[set]);
-                }
-            }
-            lotRest[lot] -= most;
-            orderRest[turn] -= most;
-            takeRoom(lot, bit, most);
-            suited[lot] &= ~bit;
-            return most;
-        }
-
-        /** Room as a share is given: a set with the order has less to give to, one without it may be bound to the rest. */
-        private void takeRoom(int lot, int bit, int given) {
-            int others = suited[lot] & ~bit;
-            for (int set = 0; set < sets; set += 2 * bit) {
-                if ((others & ~set) == 0) {
-                    room[set] -= lotRest[lot];
-                } else {
-                    room[set | bit] -= given;
-                }
+        private void serve(int turn) {
+            int order = orderNumber[turn];
+            int wanted = stock.orderSum[order];
+            for (int age = 0; age < lots; age++) {
+                int part = stock.fits(lotNumber[age], order) ? Math.min(wanted, lotRest[age]) : 0;
+                share[cell(age, turn)] = part;
+                lotRest[age] -= part;
+                wanted -= part;
             }
         }
     }

@@ -59,7 +59,7 @@ public final class ModelTest {
         }
         int lots = random.nextInt(13);
         for (int i = 0; i < lots; i++) {
-            text.append("lot ").append(random.nextInt(goods)).append(blank()).append(random.nextInt(2 * dayWidth % 100))
+            text.append("lot ").append(random.nextInt(goods)).append(blank()).append(random.nextInt(Math.min(100, 2 * dayWidth)))
                     .append(blank()).append(1 + random.nextInt(99)).append(blank())
                     .append(random.nextInt(3) > 0 ? 0 : random.nextInt(dayWidth)).append(";");
         }

@@ -53,6 +53,12 @@ public final class TapeTest {
         Checks.due("end(7)", x.end(7), true);
         Checks.due("bytes after end(7)", x.now(11), 7);
         Checks.due("end(8) after end(7)", x.end(8), false);
+        // What stood behind the end is no part of the tape any more.
+        FreshAllotter y = new FreshAllotter();
+        Checks.feedText(y, "goods 12;");
+        y.end(7);
+        Checks.due("text() of 'goods 1'", y.text(), -8);
+        Checks.due("fault() of 'goods 1'", y.fault(), 1);
     }
 
     private static void readsTexts() {
@@ -84,6 +90,14 @@ public final class TapeTest {
         dueText("1goods;", -1, 1);
         dueText("good 1;", -1, 1);
         dueText("goodss 1;", -1, 1);
+        dueText("goodsa 1;", -1, 1);
+        dueText("goodsz 1;", -1, 1);
+        dueText("hoods 1;", -1, 1);
+        dueText("goodt 1;", -1, 1);
+        dueText("goods` 1;", -6, 1);
+        dueText("goods{ 1;", -6, 1);
+        dueText("goods 1/;", -8, 1);
+        dueText("goods 1:;", -8, 1);
         dueText("Goods 1;", -1, 1);
         dueText("\tgoods 1;", -1, 1);
         dueText(";", -1, 1);
@@ -169,6 +183,9 @@ public final class TapeTest {
         dueText("goods" + " ".repeat(594) + "100;", -600, 1);
         dueText("goods" + " ".repeat(594) + "7", -600, 2);
         dueText("goods" + " ".repeat(594) + "1", -601, 1);
+        dueText("goods" + " ".repeat(595) + "7;", -601, 1);
+        dueText("goods 1;" + "customer 1;".repeat(6) + " ".repeat(526) + "customer 1;", -601, 1);
+        dueText("goods 1;" + "customer 1;".repeat(6) + " ".repeat(525) + "customer 1;", -600, 3);
         dueText("goods" + " ".repeat(595), -601, 1);
         dueText("goods" + " ".repeat(600), -601, 1);
         dueText("goods" + " ".repeat(593) + "1;", 1, 0);
