@@ -300,7 +300,7 @@ public final class FreshAllotter {
         return stock.hasCustomer(customer) && stock.hasGood(good) && isSum(sum) && stock.isAhead(day);
     }
 
-    /** Whether an order would have its whole sum, did its customer want so many days less; the draft is else the stock. */
+    /** Whether an order would have all of its sum if its customer wanted so many days less; the draft is else the stock. */
     private boolean isFilledWith(int daysLess, int order) {
         int customer = stock.orderCustomer[order];
         draft.life[customer] = stock.life[customer] - daysLess;
