@@ -427,14 +427,21 @@ public final class FreshAllotter {
         }
     }
 
-    /** Reads the tape as a text, up to its first fault. */
+    /** Reads the tape as a text, token by token, up to its first fault. */
     private static final class TextReader {
+        private static final int SOUND = 0;
         private static final int NO_TOKEN = 1;
         private static final int WRONG_NUMBER = 2;
         private static final int TOO_MANY = 3;
+        private static final int LINE_NUMBERS_MAX = 4;
 
         private final Tokens tokens;
         private final Stock target;
+        // The line that is being read, or the one that was read last.
+        private int sort;
+        private int come;
+        private boolean inLine;
+        private final int[] numbers = new int[LINE_NUMBERS_MAX];
         int lines;
         int faultKind;
         int faultPlace;
@@ -445,134 +452,127 @@ public final class FreshAllotter {
         }
 
         boolean readAll() {
-            target.clear();
-            tokens.start();
-            lines = 0;
-            faultKind = 0;
-            faultPlace = 0;
-            return readGoods() && readFurtherLines();
-        }
-
-        private boolean readGoods() {
-            tokens.advance();
-            if (tokens.kind != Tokens.GOODS) {
-                return refuse(NO_TOKEN);
-            }
-            int goods = readNumber(1, GOODS_MAX);
-            if (goods == NONE || !readStop()) {
-                return false;
-            }
-            target.goods = goods;
-            lines = 1;
-            return true;
-        }
-
-        private boolean readFurtherLines() {
-            int least = Tokens.CUSTOMER;
-            for (int line = 0; line < TAPE_MAX; line++) {
+            start();
+            // No text has more tokens than bytes, and the end is one more.
+            for (int i = 0; i <= TAPE_MAX && faultKind == SOUND; i++) {
                 tokens.advance();
-                if (tokens.kind == Tokens.END) {
+                if (tokens.kind == Tokens.END && lines > 0 && !inLine) {
                     return true;
                 }
-                if (tokens.kind < least) {
-                    return refuse(NO_TOKEN);
-                }
-                least = tokens.kind;
-                if (!readLine(least)) {
-                    return false;
-                }
-                lines++;
+                faultKind = takeToken();
+                faultPlace = tokens.place;
             }
-            return refuse(NO_TOKEN);
-        }
-
-        private boolean readLine(int kind) {
-            if (kind == Tokens.CUSTOMER) {
-                return target.customers < CUSTOMERS_MAX ? readCustomer() : refuse(TOO_MANY);
-            }
-            if (kind == Tokens.LOT) {
-                return target.lots < TEXT_LOTS_MAX ? readLot() : refuse(TOO_MANY);
-            }
-            return target.orders < TEXT_ORDERS_MAX ? readOrder() : refuse(TOO_MANY);
-        }
-
-        private boolean readCustomer() {
-            int life = readNumber(0, NUMBER_MAX);
-            if (life == NONE || !readStop()) {
-                return false;
-            }
-            target.addCustomer(life);
-            return true;
-        }
-
-        private boolean readLot() {
-            int good = readNumber(0, target.goods - 1);
-            if (good == NONE) {
-                return false;
-            }
-            int expiry = readNumber(0, NUMBER_MAX);
-            if (expiry == NONE) {
-                return false;
-            }
-            int sum = readNumber(1, NUMBER_MAX);
-            if (sum == NONE) {
-                return false;
-            }
-            int hold = readNumber(0, NUMBER_MAX);
-            if (hold == NONE || !readStop()) {
-                return false;
-            }
-            target.addLot(good, expiry, sum, hold);
-            return true;
-        }
-
-        private boolean readOrder() {
-            int customer = readNumber(0, target.customers - 1);
-            if (customer == NONE) {
-                return false;
-            }
-            int good = readNumber(0, target.goods - 1);
-            if (good == NONE) {
-                return false;
-            }
-            if (target.openOrder(customer, good) != NONE) {
-                return refuse(WRONG_NUMBER);
-            }
-            int sum = readNumber(1, NUMBER_MAX);
-            if (sum == NONE) {
-                return false;
-            }
-            int day = readNumber(0, NUMBER_MAX);
-            if (day == NONE || !readStop()) {
-                return false;
-            }
-            target.addOrder(customer, good, sum, day);
-            return true;
-        }
-
-        /** The number that comes next; NONE with a fault. */
-        private int readNumber(int least, int most) {
-            tokens.advance();
-            if (tokens.kind != Tokens.NUMBER) {
-                refuse(NO_TOKEN);
-                return NONE;
-            }
-            if (tokens.value < least || tokens.value > most) {
-                refuse(WRONG_NUMBER);
-                return NONE;
-            }
-            return tokens.value;
-        }
-
-        private boolean readStop() {
-            tokens.advance();
-            return tokens.kind == Tokens.STOP || refuse(NO_TOKEN);
-        }
-
-        private boolean refuse(int kind) {
-            faultKind = kind;
-            faultPlace = tokens.place;
             return false;
+        }
+
+        private void start() {
+            target.clear();
+            tokens.start();
+            sort = Tokens.GOODS;
+            come = 0;
+            inLine = false;
+            lines = 0;
+            faultKind = SOUND;
+            faultPlace = 0;
+        }
+
+        /** The kind of the fault that the token is. */
+        private int takeToken() {
+            if (!inLine) {
+                return takeWord();
+            }
+            return come < numbersOfLine() ? takeNumber() : takeStop();
+        }
+
+        private int takeWord() {
+            boolean canCome = lines == 0 ? tokens.kind == Tokens.GOODS
+                    : tokens.kind > Tokens.GOODS && tokens.kind >= sort;
+            if (!canCome) {
+                return NO_TOKEN;
+            }
+            sort = tokens.kind;
+            come = 0;
+            inLine = true;
+            return isRoomForLine() ? SOUND : TOO_MANY;
+        }
+
+        private boolean isRoomForLine() {
+            switch (sort) {
+                case Tokens.CUSTOMER: return target.customers < CUSTOMERS_MAX;
+                case Tokens.LOT: return target.lots < TEXT_LOTS_MAX;
+                case Tokens.ORDER: return target.orders < TEXT_ORDERS_MAX;
+                default: return true;
+            }
+        }
+
+        private int numbersOfLine() {
+            return sort == Tokens.LOT || sort == Tokens.ORDER ? LINE_NUMBERS_MAX : 1;
+        }
+
+        private int takeNumber() {
+            if (tokens.kind != Tokens.NUMBER) {
+                return NO_TOKEN;
+            }
+            if (!isAsTold(tokens.value)) {
+                return WRONG_NUMBER;
+            }
+            numbers[come] = tokens.value;
+            come++;
+            return SOUND;
+        }
+
+        /** Where 99 is the most nothing is tested: two digits never tell more. */
+        private boolean isAsTold(int value) {
+            switch (sort) {
+                case Tokens.GOODS: return value >= 1 && value <= GOODS_MAX;
+                case Tokens.LOT: return isAsToldOfLot(value);
+                case Tokens.ORDER: return isAsToldOfOrder(value);
+                default: return true;
+            }
+        }
+
+        private boolean isAsToldOfLot(int value) {
+            switch (come) {
+                case 0: return target.hasGood(value);
+                case 2: return isSum(value);
+                default: return true;
+            }
+        }
+
+        private boolean isAsToldOfOrder(int value) {
+            switch (come) {
+                case 0: return target.hasCustomer(value);
+                case 1: return target.hasGood(value) && target.openOrder(numbers[0], value) == NONE;
+                case 2: return isSum(value);
+                default: return true;
+            }
+        }
+
+        private int takeStop() {
+            if (tokens.kind != Tokens.STOP) {
+                return NO_TOKEN;
+            }
+            addLine();
+            inLine = false;
+            lines++;
+            return SOUND;
+        }
+
+        private void addLine() {
+            switch (sort) {
+                case Tokens.CUSTOMER:
+                    target.addCustomer(numbers[0]);
+                    break;
+                case Tokens.LOT:
+                    target.addLot(numbers[0], numbers[1], numbers[2], numbers[3]);
+                    break;
+                case Tokens.ORDER:
+                    target.addOrder(numbers[0], numbers[1], numbers[2], numbers[3]);
+                    break;
+                default:
+                    target.goods = numbers[0];
+                    break;
+            }
         }
     }
 
