@@ -468,12 +468,9 @@ public final class FreshAllotter {
         private void start() {
             target.clear();
             tokens.start();
-            sort = Tokens.GOODS;
-            come = 0;
             inLine = false;
             lines = 0;
             faultKind = SOUND;
-            faultPlace = 0;
         }
 
         /** The kind of the fault that the token is. */

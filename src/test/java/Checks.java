@@ -1,23 +1,68 @@
+import java.lang.reflect.InvocationTargetException;
+import java.lang.reflect.Method;
 import java.nio.charset.StandardCharsets;
 import java.util.Arrays;
+import java.util.Comparator;
+import java.util.List;
 import java.util.NoSuchElementException;
 
 /** What the tests share: comparing answers, and bringing a text onto an object's tape. */
 final class Checks {
     private static int wrong = 0;
+    private static String test = "";
 
     private Checks() {
+    }
+
+    /** Runs every test of a class and ends: each is a method named after the promise or the terms it belongs to. */
+    static void runAll(Class<?> type) {
+        List<Method> tests = Arrays.stream(type.getDeclaredMethods())
+                .filter(method -> method.getName().matches("(promise[0-9]+|terms)[A-Z0-9].*"))
+                .sorted(Comparator.comparing(Method::getName)).toList();
+        due("tests of " + type.getName(), tests.isEmpty(), false);
+        for (Method method : tests) {
+            test = method.getName() + ": ";
+            run(method);
+        }
+        test = "";
+        System.out.print(tests.size() + " tests, ");
+        finish();
+    }
+
+    private static void run(Method method) {
+        try {
+            method.invoke(null);
+        } catch (InvocationTargetException e) {
+            wrong++;
+            System.out.println(test + "stopped by " + e.getCause());
+        } catch (IllegalAccessException e) {
+            throw new IllegalStateException(e);
+        }
     }
 
     static void due(String call, long got, long want) {
         if (got != want) {
             wrong++;
-            System.out.println(call + " answered " + got + ", due is " + want);
+            System.out.println(test + call + " answered " + got + ", due is " + want);
         }
     }
 
     static void due(String call, boolean got, boolean want) {
         due(call, got ? 1 : 0, want ? 1 : 0);
+    }
+
+    /** What a lot tells, from what 0 on. */
+    static void dueLot(FreshAllotter x, int lot, int... want) {
+        for (int what = 0; what < want.length; what++) {
+            due("lot(" + lot + ", " + what + ")", x.lot(lot, what), want[what]);
+        }
+    }
+
+    /** What an order tells, from what 0 on. */
+    static void dueOrder(FreshAllotter x, int order, int... want) {
+        for (int what = 0; what < want.length; what++) {
+            due("order(" + order + ", " + what + ")", x.order(order, what), want[what]);
+        }
     }
 
     static void dueThrowsOfLot(FreshAllotter x, int lot, int what) {
