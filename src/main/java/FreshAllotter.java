@@ -345,7 +345,7 @@ public final class FreshAllotter {
             this.tape = tape;
         }
 
-        void start() {
+        void rewind() {
             at = 0;
         }
 
@@ -467,7 +467,7 @@ public final class FreshAllotter {
 
         private void start() {
             target.clear();
-            tokens.start();
+            tokens.rewind();
             inLine = false;
             lines = 0;
             faultKind = SOUND;
