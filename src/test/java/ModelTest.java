@@ -2,14 +2,15 @@ import java.nio.charset.StandardCharsets;
 import java.util.Arrays;
 import java.util.NoSuchElementException;
 import java.util.Random;
+import java.util.stream.IntStream;
 
 /** Runs of calls by chance (of a fixed seed), each answer compared with that of the model: promises 1 to 24. */
 public final class ModelTest {
     private static final int RUNS = 400;
     private static final int CALLS = 512;
     private static final int[] STRANGE = {-1, -2, 99, 100, 999, 1000, Integer.MIN_VALUE, Integer.MAX_VALUE};
-    private static final String[] ACTS = {"comes", "asks", "asks", "reserve", "reserve", "cancel", "hold", "deliver",
-        "deliver", "pass", "undo"};
+    private static final String[] ACTS = {"comes", "comes", "asks", "asks", "asks", "asks", "reserve", "reserve", "reserve",
+        "cancel", "hold", "hold", "deliver", "deliver", "deliver", "pass", "undo"};
     private static final String[] ASKED = {"now", "lot", "order", "reserved", "customer", "suits", "plan", "plan",
         "waste", "least", "would", "slack", "slack", "fault"};
 
@@ -52,7 +53,7 @@ public final class ModelTest {
 
     private String wholeText() {
         int goods = 1 + random.nextInt(random.nextBoolean() ? 1 : 4);
-        int customers = random.nextInt(7);
+        int customers = random.nextInt(12) == 0 ? 0 : 1 + random.nextInt(6);
         StringBuilder text = new StringBuilder("goods " + goods + ";");
         for (int i = 0; i < customers; i++) {
             text.append("customer ").append(random.nextInt(1 + random.nextInt(dayWidth))).append(";");
@@ -126,11 +127,12 @@ public final class ModelTest {
             case "customer": n = new int[] {customer(), random.nextInt(3) == 0 ? -1 : good()}; break;
             case "waste": case "least": n = new int[] {good(), day()}; break;
             case "would": case "asks": n = new int[] {customer(), good(), sum(), day()}; break;
-            case "slack": case "cancel": case "deliver": n = new int[] {order()}; break;
+            case "slack": case "cancel": n = new int[] {order()}; break;
+            case "deliver": n = new int[] {orderToDeliver()}; break;
             case "comes": n = new int[] {good(), day() + random.nextInt(dayWidth), sum(), hold()}; break;
             case "reserve": n = new int[] {good()}; break;
             case "hold": n = new int[] {lot(), hold()}; break;
-            case "pass": n = new int[] {random.nextInt(3) > 0 ? 1 : strange(1 + random.nextInt(dayWidth))}; break;
+            case "pass": n = new int[] {random.nextInt(8) > 0 ? 1 : strange(1 + random.nextInt(dayWidth))}; break;
             default: n = new int[0];
         }
         call(name, n);
@@ -144,10 +146,23 @@ public final class ModelTest {
         return strange(random.nextInt(8) == 0 ? -1 : random.nextInt((int) model.call("now", 3) + 1));
     }
 
-    /** Late orders are asked for more often, as most early ones are closed. */
+    /** Open orders are asked for more often, as most others only answer that they are none. */
     private int order() {
-        int orders = (int) model.call("now", 4) + 1;
-        return strange(orders - 1 - random.nextInt(Math.min(orders, random.nextBoolean() ? 8 : 41)));
+        int orders = (int) model.call("now", 4);
+        IntStream open = IntStream.range(0, orders).filter(order -> model.call("order", order, 4) == 0);
+        return strange(random.nextInt(4) > 0 ? oneOf(open) : random.nextInt(orders + 1));
+    }
+
+    private int orderToDeliver() {
+        IntStream ready = IntStream.range(0, (int) model.call("now", 4)).filter(order -> model.call("order", order, 5) > 0
+                && model.call("order", order, 3) == model.call("now", 0));
+        return random.nextInt(4) > 0 ? oneOf(ready) : order();
+    }
+
+    /** One of these numbers, 0 if there are none. */
+    private int oneOf(IntStream numbers) {
+        int[] all = numbers.toArray();
+        return all.length == 0 ? 0 : all[random.nextInt(all.length)];
     }
 
     private int customer() {
